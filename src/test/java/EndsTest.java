@@ -5,6 +5,7 @@ public final class EndsTest {
         darkAndBehind(due);
         refusedStates(due);
         walls(due);
+        wallsByOne(due);
         leastPlace(due);
         farEnds(due);
         endsOfKinds(due);
@@ -160,6 +161,41 @@ public final class EndsTest {
         due.is("hides(0, 80, 800)", g.hides(0, 80, 800), Due.NONE);
         due.is("hides(0, 355, 725)", g.hides(0, 355, 725), 9);
         due.is("hides(0, 355, 780)", g.hides(0, 355, 780), 9);
+    }
+
+    /** Promises 19 and 20: ends that are beside the sun's line by 1 or 2, or on it. */
+    private static void wallsByOne(Due due) {
+        DialGarden g = new DialGarden();
+        due.is("dial(0, 0, 0, 0, 100)", g.dial(0, 0, 0, 0, 100), 0);
+        // c, e are 1, 2; then 2, 1; -1, -2; -2, -1.
+        due.is("house(9, 5518, -4571, ends(1043, -864), 10000)", g.house(9, 5518, -4571, ends(1043, -864), 10000), 0);
+        due.is("hides(0, 253, 569)", g.hides(0, 253, 569), Due.NONE);
+        due.is("house(9, 1043, -864, ends(5518, -4571), 10000)", g.house(9, 1043, -864, ends(5518, -4571), 10000), 0);
+        due.is("hides(0, 253, 569)", g.hides(0, 253, 569), Due.NONE);
+        due.is("house(9, 4475, -3707, ends(-1043, 864), 10000)", g.house(9, 4475, -3707, ends(-1043, 864), 10000), 0);
+        due.is("hides(0, 253, 569)", g.hides(0, 253, 569), Due.NONE);
+        due.is("house(9, -1043, 864, ends(4475, -3707), 10000)", g.house(9, -1043, 864, ends(4475, -3707), 10000), 0);
+        due.is("hides(0, 253, 569)", g.hides(0, 253, 569), Due.NONE);
+        // 0, -2; 0, 1; 1, 0; 0, -1; -1, 0; 0, 2; 2, 0; -2, 0.
+        due.is("house(9, 9993, -8278, ends(-1043, 864), 10000)", g.house(9, 9993, -8278, ends(-1043, 864), 10000), 0);
+        due.is("hides(0, 253, 569)", g.hides(0, 253, 569), 9);
+        due.is("house(9, 9993, -8278, ends(-4475, 3707), 10000)", g.house(9, 9993, -8278, ends(-4475, 3707), 10000), 0);
+        due.is("hides(0, 253, 569)", g.hides(0, 253, 569), 9);
+        due.is("house(9, -4475, 3707, ends(9993, -8278), 10000)", g.house(9, -4475, 3707, ends(9993, -8278), 10000), 0);
+        due.is("hides(0, 253, 569)", g.hides(0, 253, 569), 9);
+        due.is("house(9, 9993, -8278, ends(-5518, 4571), 10000)", g.house(9, 9993, -8278, ends(-5518, 4571), 10000), 0);
+        due.is("hides(0, 253, 569)", g.hides(0, 253, 569), 9);
+        due.is("house(9, -5518, 4571, ends(9993, -8278), 10000)", g.house(9, -5518, 4571, ends(9993, -8278), 10000), 0);
+        due.is("hides(0, 253, 569)", g.hides(0, 253, 569), 9);
+        due.is("house(9, 9993, -8278, ends(-8950, 7414), 10000)", g.house(9, 9993, -8278, ends(-8950, 7414), 10000), 0);
+        due.is("hides(0, 253, 569)", g.hides(0, 253, 569), 9);
+        due.is("house(9, -8950, 7414, ends(9993, -8278), 10000)", g.house(9, -8950, 7414, ends(9993, -8278), 10000), 0);
+        due.is("hides(0, 253, 569)", g.hides(0, 253, 569), 9);
+        due.is("house(9, -1043, 864, ends(9993, -8278), 10000)", g.house(9, -1043, 864, ends(9993, -8278), 10000), 0);
+        due.is("hides(0, 253, 569)", g.hides(0, 253, 569), 9);
+        // k is 1.
+        due.is("house(9, -1, -1, ends(1, 0), 1)", g.house(9, -1, -1, ends(1, 0), 1), 0);
+        due.is("hides(0, 80, 720)", g.hides(0, 80, 720), 9);
     }
 
     /** Promise 20: of several houses that of the least place hides the sun. */

@@ -24,6 +24,7 @@ public final class RunsTest {
     public static void main(String[] args) {
         Due due = new Due();
         TreeMap<String, Integer> seen = new TreeMap<>();
+        allSines(due);
         for (int run = 1; run <= RUNS; run++) new RunsTest(due, seen, run).go();
         // Runs in which these never happen would prove little.
         for (String name : new String[] {"state 0", "state 1", "state 2", "state 3", "state 4", "hider", "FULL",
@@ -31,6 +32,14 @@ public final class RunsTest {
             due.holds("the runs come to: " + name, seen.getOrDefault(name, 0) > 0);
         }
         due.end("RunsTest");
+    }
+
+    private static void allSines(Due due) {
+        PlainGarden plain = new PlainGarden();
+        for (int first = 0; first < 65536; first += CALLS) {
+            DialGarden garden = new DialGarden();
+            for (int a = first; a < first + CALLS; a++) due.is("sine(" + a + ")", garden.sine(a), plain.sine(a));
+        }
     }
 
     private void go() {
@@ -255,7 +264,8 @@ public final class RunsTest {
 
     private int askEnd(int place, int day, int minute, int what) {
         int want = plain.end(place, day, minute, what);
-        same("end(" + place + ", " + day + ", " + minute + ", " + what + ")", garden.end(place, day, minute, what), want);
+        same("end(" + place + ", " + day + ", " + minute + ", " + what + ")",
+            garden.end(place, day, minute, what), want);
         return want;
     }
 
@@ -263,7 +273,8 @@ public final class RunsTest {
         int want = plain.read(place, day, minute, what);
         note("reading", want >= 0);
         note("no reading", want == PlainGarden.NONE && plain.state(place, day, minute) == 0);
-        same("read(" + place + ", " + day + ", " + minute + ", " + what + ")", garden.read(place, day, minute, what), want);
+        same("read(" + place + ", " + day + ", " + minute + ", " + what + ")",
+            garden.read(place, day, minute, what), want);
     }
 
     private void askSights() {
