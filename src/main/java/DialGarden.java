@@ -342,7 +342,7 @@ public final class DialGarden {
 
     /** The document's x . y: a shift rounds down where Java's division would round towards 0. */
     private static int dot(int x, int y) {
-        return (int) ((long) x * y >> UNIT_BITS);
+        return (int) (((long) x * y) >> UNIT_BITS);
     }
 
     // ---- the garden's things
@@ -488,7 +488,7 @@ public final class DialGarden {
             long px = x1 - x, py = y1 - y, qx = x2 - x, qy = y2 - y;
             long c = sky.east * py - sky.north * px;
             long e = sky.east * qy - sky.north * qx;
-            if (c > 0 && e > 0 || c < 0 && e < 0) return false;
+            if ((c > 0 && e > 0) || (c < 0 && e < 0)) return false;
             long w = e - c;
             long k = px * qy - py * qx;
             if (w < 0) {
@@ -525,15 +525,15 @@ public final class DialGarden {
         }
 
         Dial withHour(int hour, int is) {
-            return new Dial(kind, x, y, rod, facing, slant, hours & ~(1 << hour) | is << hour);
+            return new Dial(kind, x, y, rod, facing, slant, (hours & ~(1 << hour)) | (is << hour));
         }
 
         boolean isA(int otherKind) {
-            return isKind(kind) && (KINDS_OF[kind] >> otherKind & 1) == 1;
+            return isKind(kind) && ((KINDS_OF[kind] >> otherKind) & 1) == 1;
         }
 
         int hourLeft(int hour) {
-            return hours >> hour & 1;
+            return (hours >> hour) & 1;
         }
 
         @Override
