@@ -108,19 +108,25 @@ public final class FaceTest {
     }
 
     private static void source(Due due, String text) {
-        String code = text.replaceAll("(?s)/\\*.*?\\*/", "").replaceAll("//[^\n]*", "");
+        String code = text.replaceAll("(?s)/\\*.*?\\*/", "").replaceAll("//[^\n]*", "")
+            .replaceAll("\"(\\\\.|[^\"\\\\])*\"", "\"\"");
         Matcher forbidden = Pattern.compile(
-            "\\b(throws?|try|catch|finally|synchronized|assert|var|package|double|float|Exact)\\b|->|::|\\w+Exact\\b|\"")
-            .matcher(code);
-        due.holds("a word that the language leaves out", !forbidden.find());
-        Matcher imports = Pattern.compile("import ([\\w.]+);").matcher(code);
-        while (imports.find()) due.holds("import " + imports.group(1), imports.group(1).equals("java.util.Arrays"));
-        Matcher library = Pattern.compile("\\b(System|Arrays|Math|Integer|Long)\\.(\\w+)").matcher(code);
-        while (library.find()) {
-            due.holds(library.group(), Set.of("arraycopy", "fill", "floorDiv", "floorMod", "abs", "min", "bitCount")
-                .contains(library.group(2)));
+            "\\b(throws?|try|catch|finally|synchronized|assert|package)\\b|::|\\b\\w+Exact\\b").matcher(code);
+        if (forbidden.find()) due.holds("the language leaves out: " + forbidden.group(), false);
+        // An arrow of a switch is fine, one of a lambda is not.
+        for (String line : code.split("\n")) {
+            due.holds("a lambda: " + line, !line.contains("->") || line.strip().matches("(case|default)\\b.*"));
         }
+        allAreOf(due, code, "import ([\\w.]+);",
+            Set.of("java.util.Arrays", "java.util.ArrayList", "java.util.List", "java.util.Iterator"));
+        allAreOf(due, code, "\\bSystem\\.(\\w+)", Set.of("arraycopy"));
+        allAreOf(due, code, "\\bArrays\\.(\\w+)", Set.of("copyOf", "copyOfRange", "fill"));
         methodLengths(due, text);
+    }
+
+    private static void allAreOf(Due due, String code, String form, Set<String> allowed) {
+        Matcher found = Pattern.compile(form).matcher(code);
+        while (found.find()) due.holds(found.group(), allowed.contains(found.group(1)));
     }
 
     /** A method starts at a line that ends with ") {" and is set in by one or two steps. */
