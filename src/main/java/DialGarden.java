@@ -22,7 +22,7 @@ public final class DialGarden {
     private final Sky sky = new Sky();
     private final Thing[] things = new Thing[PLACES];
     private final Changes changes = new Changes();
-    private final Shade shade = new Shade(sky);
+    private final Shade shade = new Shade();
     private final Marks marks = new Marks();
     private final Sights sights = new Sights();
     private final int[] turns = new int[2 * TURN_LIMIT + 1];
@@ -379,7 +379,7 @@ public final class DialGarden {
     private int stateOf(Dial dial, int day, int minute) {
         shade.setUp(dial, things);
         sky.setTime(day, minute);
-        return shade.cast();
+        return shade.cast(sky);
     }
 
     /** LEFT plays no part here: THE LINE asks only whether the DIAL is LIT. */
@@ -390,7 +390,7 @@ public final class DialGarden {
         shade.setUp(dial, things);
         for (int day = 0; day < DAYS; day++) {
             sky.setTime(day, MINUTES_PER_HOUR * hour);
-            if (shade.cast() != LIT) continue;
+            if (shade.cast(sky) != LIT) continue;
             daysOfLine.add(day);
             firstNumbers.add(shade.endX);
             secondNumbers.add(shade.endY);
@@ -404,13 +404,13 @@ public final class DialGarden {
         for (int hour = 0; hour < HOURS; hour++) {
             if (dial.hourLeft(hour) == 0) continue;
             sky.setMinute(MINUTES_PER_HOUR * hour);
-            if (shade.cast() == LIT) marks.add(hour, shade.endX, shade.endY);
+            if (shade.cast(sky) == LIT) marks.add(hour, shade.endX, shade.endY);
         }
     }
 
     private boolean hasReading(Dial dial, int minute) {
         sky.setMinute(minute);
-        return shade.cast() == LIT && marks.show(shade.endX, shade.endY, dial.isA(RING));
+        return shade.cast(sky) == LIT && marks.show(shade.endX, shade.endY, dial.isA(RING));
     }
 
     /** How many STRETCHES there are; the MINUTES of the wanted one are put into minutesOfStretch. */
@@ -422,7 +422,7 @@ public final class DialGarden {
         boolean wasLit = false;
         for (int minute = 0; minute < MINUTES; minute++) {
             sky.setMinute(minute);
-            boolean isLit = shade.cast() == LIT;
+            boolean isLit = shade.cast(sky) == LIT;
             if (isLit && !wasLit) begun++;
             if (isLit && begun - 1 == wanted) minutesOfStretch.add(minute);
             wasLit = isLit;
@@ -440,11 +440,11 @@ public final class DialGarden {
     /** No turn changes which HOUSE hides the sun, so that is asked once for all of them. */
     private void keepAgreeingTurns(Dial dial, int sight) {
         sky.setTime(sights.days[sight], sights.minutes[sight]);
-        shade.findHider();
+        shade.findHider(sky);
         int kept = 0;
         for (int i = 0; i < turnCount; i++) {
             shade.setRows(dial, dial.facing + turns[i]);
-            if (shade.settle() == LIT && sights.isCloseTo(sight, shade.endX, shade.endY)) turns[kept++] = turns[i];
+            if (shade.settle(sky) == LIT && sights.isCloseTo(sight, shade.endX, shade.endY)) turns[kept++] = turns[i];
         }
         turnCount = kept;
     }
@@ -661,7 +661,6 @@ public final class DialGarden {
 
     /** A DIAL set up among the HOUSES, and what its shadow does under the sun that the sky shows. */
     private static final class Shade {
-        private final Sky sky;
         private final Row face = new Row(), across = new Row(), along = new Row();
         private final House[] houses = new House[PLACES];
         private final int[] housePlaces = new int[PLACES];
@@ -669,10 +668,6 @@ public final class DialGarden {
         private int x = 0, y = 0, rod = 1;
         private boolean isRing = false;
         private int hider = NONE, endX = 0, endY = 0;
-
-        Shade(Sky sky) {
-            this.sky = sky;
-        }
 
         void setUp(Dial dial, Thing[] things) {
             x = dial.x;
@@ -713,12 +708,12 @@ public final class DialGarden {
         }
 
         /** The STATE; if it is LIT, endX and endY are THE END, if it is HIDDEN, hider is the PLACE. */
-        int cast() {
-            findHider();
-            return settle();
+        int cast(Sky sky) {
+            findHider(sky);
+            return settle(sky);
         }
 
-        void findHider() {
+        void findHider(Sky sky) {
             hider = NONE;
             if (sky.up <= 0) return;
             for (int i = 0; i < houseCount && hider == NONE; i++) {
@@ -728,7 +723,7 @@ public final class DialGarden {
         }
 
         /** As cast(), for a hider that is known. */
-        int settle() {
+        int settle(Sky sky) {
             if (sky.up <= 0) return DARK;
             long byFace = face.sunBy(sky);
             if (byFace <= 0) return BEHIND;

@@ -121,7 +121,15 @@ public final class FaceTest {
             Set.of("java.util.Arrays", "java.util.ArrayList", "java.util.List", "java.util.Iterator"));
         allAreOf(due, code, "\\bSystem\\.(\\w+)", Set.of("arraycopy"));
         allAreOf(due, code, "\\bArrays\\.(\\w+)", Set.of("copyOf", "copyOfRange", "fill"));
+        nothingIsHandedOut(due, code);
         methodLengths(due, text);
+    }
+
+    /** Field initialisers are of the constructor, which may not give one part of its object to another one. */
+    private static void nothingIsHandedOut(Due due, String code) {
+        Matcher handing = Pattern.compile(
+            "(?m)^( {4}| {8})private [^;{}()]*= new \\w+\\((this|[a-z]\\w*)\\b[^;]*;").matcher(code);
+        while (handing.find()) due.holds("a constructor hands out " + handing.group(2), false);
     }
 
     private static void allAreOf(Due due, String code, String form, Set<String> allowed) {
